@@ -24,6 +24,7 @@ public final class PromiseTests {
         move();
         beat();
         beatSinksFromTheLowestOn();
+        beatSinksAllOfAString();
         wind();
         set();
         type();
@@ -207,12 +208,19 @@ public final class PromiseTests {
         due("kite(3, 2)", x.kite(3, 2), 1);
         due("fly(2, 6)", x.fly(2, 6), 4);
         due("kite(4, 2)", x.kite(4, 2), 3);
+        x.set(0, 5);
         x.read(4);
+        due("kite(4, 5), cut", x.kite(4, 5), 1);
         x.takeDown(4);
         due("fly(0, 7)", x.fly(0, 7), 4);
         due("kite(4, 3)", x.kite(4, 3), 0);
         due("kite(4, 4)", x.kite(4, 4), 0);
         due("kite(4, 5)", x.kite(4, 5), 0);
+        x = begin("2 fly, all on one string");
+        for (int k = 0; k < 12; k++) {
+            due("fly(3, 0)", x.fly(3, 0), k);
+            due("kite(" + k + ", 2)", x.kite(k, 2), k);
+        }
     }
 
     private static void takeDown() {
@@ -465,6 +473,31 @@ public final class PromiseTests {
         due("kite(2, 2)", x.kite(2, 2), 0);
         due("kite(1, 2)", x.kite(1, 2), 1);
         due("kite(0, 2)", x.kite(0, 2), 2);
+    }
+
+    private static void beatSinksAllOfAString() {
+        KiteRegisters x = begin("7 beat, twelve kites");
+        for (int k = 0; k < 12; k++) {
+            x.fly(3, k);
+        }
+        x.wind(0, 9);
+        for (int k = 0; k < 12; k++) {
+            x.read(k);
+        }
+        x.beat(1);
+        // Kite k is to be at k + 10, but two kites are in its way each time, so it is put to k + 12.
+        for (int k = 0; k < 12; k++) {
+            due("kite(" + k + ", 2), fresh in the beat", x.kite(k, 2), k + 12);
+        }
+        x.set(1, 9);
+        x.beat(1);
+        for (int k = 0; k < 12; k++) {
+            due("kite(" + k + ", 2), sunk", x.kite(k, 2), k + 3);
+        }
+        x.beat(1);
+        for (int k = 0; k < 12; k++) {
+            due("kite(" + k + ", 2), down", x.kite(k, 2), k);
+        }
     }
 
     private static void wind() {
@@ -944,6 +977,8 @@ public final class PromiseTests {
         x.read(2);
         x.wind(0, 9);
         due("ifRead(1, 3), cut", x.ifRead(1, 3), 0);
+        due("ifRead(4, 0), cut to a string without kites", x.ifRead(4, 0), 1);
+        due("ifRead(4, 1), cut to a string without kites", x.ifRead(4, 1), 0);
         due("ifRead(1, 4)", x.ifRead(1, 4), BAD_VALUE);
         due("ifRead(1, -1)", x.ifRead(1, -1), BAD_VALUE);
         due("ifRead(5, 0)", x.ifRead(5, 0), UNKNOWN);
@@ -1097,6 +1132,22 @@ public final class PromiseTests {
         x.fly(1, 1);
         due("count(0), full", x.count(0), 12);
         due("calmest(), full", x.calmest(), 3);
+        x = begin("26 calmest, weights");
+        for (int s = 0; s < 4; s++) {
+            x.fly(s, s);
+            x.wind(0, 4 - s);
+            x.read(s);
+        }
+        due("calmest(), nothing at 0", x.calmest(), 3);
+        x.wind(0, 0);
+        x.fly(3, 4);
+        due("calmest(), 2 by its weights", x.calmest(), 2);
+        x.set(0, 5);
+        x.fly(2, 5);
+        x.fly(2, 6);
+        x.fly(3, 7);
+        // On 0 is a kite at 5, on 1 at 4, on 2 at 0, 1 and 3, on 3 at 0, 1 and 2.
+        due("calmest(), 1 by its weights", x.calmest(), 1);
     }
 
     private static void count() {
@@ -1123,6 +1174,9 @@ public final class PromiseTests {
         due("count(MIN)", x.count(Integer.MIN_VALUE), BAD_VALUE);
         x.takeDown(1);
         due("count(6)", x.count(6), 0);
+        x.read(0);
+        due("count(6)", x.count(6), 5);
+        x.undo();
         due("count(3)", x.count(3), 3);
         int cuts = 0;
         int weights = 0;
@@ -1138,40 +1192,36 @@ public final class PromiseTests {
 
     private static void actsAreRecorded() {
         KiteRegisters x = begin("history");
-        x.fly(0, 1);
-        x.undo();
-        x.keep();
         for (int act = 0; act < 10; act++) {
             x = new KiteRegisters();
             x.fly(0, 1);
-            x.fly(1, 2);
-            x.undo();
             x.keep();
+            x.fly(1, 2);
             enter(x, "beat 1;fly 0 3");
             int[] was = told(x);
             act(x, act);
-            due("count(11) behind act " + act, x.count(11), 2);
-            due("undo() of act " + act, x.undo(), 1);
+            due("count(11) behind act " + act, x.count(11), 3);
+            due("undo() of act " + act, x.undo(), 2);
             same("the state before act " + act, told(x), was);
         }
     }
 
     private static void act(KiteRegisters x, int act) {
-        int[] answers = new int[1];
+        int answer;
         switch (act) {
-            case 0: answers[0] = x.fly(3, 3); break;
-            case 1: answers[0] = x.takeDown(0); break;
-            case 2: answers[0] = x.read(0); break;
-            case 3: answers[0] = x.write(0, 7); break;
-            case 4: answers[0] = x.move(0, 3); break;
-            case 5: answers[0] = x.beat(3); break;
-            case 6: answers[0] = x.wind(3, 3); break;
-            case 7: answers[0] = x.set(1, 3); break;
-            case 8: answers[0] = x.perform(); break;
-            default: answers[0] = x.restore(); break;
+            case 0: answer = x.fly(3, 3); break;
+            case 1: answer = x.takeDown(0); break;
+            case 2: answer = x.read(0); break;
+            case 3: answer = x.write(0, 7); break;
+            case 4: answer = x.move(0, 3); break;
+            case 5: answer = x.beat(3); break;
+            case 6: answer = x.wind(3, 3); break;
+            case 7: answer = x.set(1, 3); break;
+            case 8: answer = x.perform(); break;
+            default: answer = x.restore(); break;
         }
-        if (answers[0] <= UNKNOWN) {
-            due("act " + act, answers[0], 0);
+        if (answer <= UNKNOWN) {
+            due("act " + act, answer, 0);
         }
     }
 
