@@ -26,6 +26,7 @@ public final class KiteRegisters {
     private static final int DOWN_MOST = 200;
 
     private static final int NOWHERE = -1;
+    private static final int ABOVE_ALL = 1000000;
 
     private final Sky sky = new Sky();
     private final Sky before = new Sky();
@@ -532,7 +533,7 @@ public final class KiteRegisters {
                 case 5:
                     return cuts[kite];
                 case 6:
-                    return kitesBetween(strings[kite], heights[kite], Integer.MAX_VALUE);
+                    return kitesBetween(strings[kite], heights[kite], ABOVE_ALL);
                 case 7:
                     return lowestAbove(strings[kite], heights[kite]);
                 case 8:
@@ -595,11 +596,11 @@ public final class KiteRegisters {
             }
             switch (what) {
                 case 0:
-                    return kitesBetween(string, -1, Integer.MAX_VALUE);
+                    return kitesBetween(string, -1, ABOVE_ALL);
                 case 1:
                     return weightsOn(string);
                 case 2:
-                    return highestBelow(string, Integer.MAX_VALUE);
+                    return highestBelow(string, ABOVE_ALL);
                 case 3:
                     return lowestAbove(string, -1);
                 case 4:
@@ -623,7 +624,7 @@ public final class KiteRegisters {
 
         private int lowestAbove(int string, int height) {
             int best = NONE;
-            int bestHeight = Integer.MAX_VALUE;
+            int bestHeight = ABOVE_ALL;
             for (int k = 0; k < KITES; k++) {
                 if (strings[k] == string && heights[k] > height && heights[k] < bestHeight) {
                     best = k;

@@ -1,16 +1,10 @@
-import java.util.Arrays;
+import java.util.Map;
 
 /** For each promise of the document: ordinary inputs, its edges, and wrong inputs. */
-public final class PromiseTests {
+public final class PromiseTests extends Bench {
 
-    private static final int UNKNOWN = -10001;
-    private static final int BAD_VALUE = -10002;
-    private static final int FULL = -10003;
-    private static final int NOT_POSSIBLE = -10004;
-    private static final int NONE = -10005;
-
-    private static int wrong = 0;
-    private static String promise = "";
+    private PromiseTests() {
+    }
 
     public static void main(String[] args) {
         newObject();
@@ -51,34 +45,12 @@ public final class PromiseTests {
         count();
         actsAreRecorded();
         wrongCallsChangeNothing();
-        System.out.println(wrong == 0 ? "all promises hold" : wrong + " answers are not as due");
-        if (wrong != 0) {
-            System.exit(1);
-        }
-    }
-
-    private static void due(String call, long got, long want) {
-        if (got != want) {
-            wrong++;
-            System.out.println(promise + ": " + call + " answered " + got + ", due is " + want);
-        }
+        end("all promises hold");
     }
 
     private static KiteRegisters begin(String name) {
-        promise = name;
+        about(name);
         return new KiteRegisters();
-    }
-
-    private static void enter(KiteRegisters x, String text) {
-        x.clearText();
-        for (int i = 0; i < text.length(); i++) {
-            x.type(text.charAt(i));
-        }
-    }
-
-    private static int performed(KiteRegisters x, String text) {
-        enter(x, text);
-        return x.perform();
     }
 
     private static void fault(String text, int index) {
@@ -95,45 +67,6 @@ public final class PromiseTests {
             x.fly(i & 3, i);
         }
         due("perform() of '" + text + "'", performed(x, text), count);
-    }
-
-    /** All that an object tells of its state, without the history and the text. */
-    private static int[] told(KiteRegisters x) {
-        int[] all = new int[400];
-        int n = 0;
-        for (int k = 0; k < 12; k++) {
-            for (int w = 0; w <= 8; w++) {
-                all[n++] = x.kite(k, w);
-            }
-            for (int w = 0; w <= 3; w++) {
-                all[n++] = x.ifRead(k, w);
-            }
-            all[n++] = x.share(k);
-            all[n++] = x.readsToCut(k);
-            all[n++] = x.downIn(k, 0);
-        }
-        for (int s = 0; s < 4; s++) {
-            for (int w = 0; w <= 5; w++) {
-                all[n++] = x.string(s, w);
-            }
-        }
-        for (int b = 0; b < 8; b++) {
-            all[n++] = x.windOf(b);
-        }
-        for (int w = 0; w <= 10; w++) {
-            all[n++] = x.count(w);
-        }
-        all[n++] = x.safeWind();
-        all[n++] = x.calmest();
-        return Arrays.copyOf(all, n);
-    }
-
-    private static void same(String what, int[] got, int[] want) {
-        if (!Arrays.equals(got, want)) {
-            wrong++;
-            System.out.println(promise + ": " + what + " differs: " + Arrays.toString(got) + ", due is "
-                    + Arrays.toString(want));
-        }
     }
 
     // ---- kites
@@ -708,9 +641,9 @@ public final class PromiseTests {
         x.fly(0, 1);
         x.read(0);
         x.keep();
-        int[] was = told(x);
+        Map<String, Integer> was = state(x);
         due("perform()", performed(x, "beat 3;wind 0 9;fly 1 1;write 0 8;read 1;read 2;read 0"), NOT_POSSIBLE);
-        same("the state", told(x), was);
+        same("the state", state(x), was);
         due("count(11)", x.count(11), 2);
         due("stopped(0)", x.stopped(0), 5);
         due("stopped(1)", x.stopped(1), UNKNOWN);
@@ -770,7 +703,7 @@ public final class PromiseTests {
         due("count(0)", x.count(0), 3);
         due("undo(), the oldest were dropped", x.undo(), NONE);
         due("count(0)", x.count(0), 3);
-        int[] was = told(x);
+        Map<String, Integer> was = state(x);
         x.set(0, 5);
         x.set(1, 3);
         performed(x, "read 2;read 2;beat 2;wind 3 9");
@@ -779,7 +712,7 @@ public final class PromiseTests {
         x.undo();
         x.undo();
         x.undo();
-        same("the state", told(x), was);
+        same("the state", state(x), was);
     }
 
     private static void keep() {
@@ -829,7 +762,7 @@ public final class PromiseTests {
         x.set(1, 2);
         performed(x, "fly 0 5;fly 0 6;read 0;read 0;write 1 -7;wind 0 9;wind 7 1;beat 7");
         x.write(1, 8);
-        int[] was = told(x);
+        Map<String, Integer> was = state(x);
         x.keep();
         x.set(0, 80);
         x.set(1, 9);
@@ -840,7 +773,7 @@ public final class PromiseTests {
         x.takeDown(1);
         enter(x, "beat");
         x.restore();
-        same("the state", told(x), was);
+        same("the state", state(x), was);
         due("count(12)", x.count(12), 4);
         due("count(11)", x.count(11), 4);
     }
@@ -1198,11 +1131,11 @@ public final class PromiseTests {
             x.keep();
             x.fly(1, 2);
             enter(x, "beat 1;fly 0 3");
-            int[] was = told(x);
+            Map<String, Integer> was = state(x);
             act(x, act);
             due("count(11) behind act " + act, x.count(11), 3);
             due("undo() of act " + act, x.undo(), 2);
-            same("the state before act " + act, told(x), was);
+            same("the state before act " + act, state(x), was);
         }
     }
 
@@ -1234,7 +1167,7 @@ public final class PromiseTests {
         x.takeDown(5);
         x.undo();
         enter(x, "beat 1;beat 0");
-        int[] was = told(x);
+        Map<String, Integer> was = state(x);
         int states = x.count(11);
         x.fly(0, 1);
         x.fly(4, 1);
@@ -1258,7 +1191,7 @@ public final class PromiseTests {
         x.set(1, 10);
         x.perform();
         x.restore();
-        same("the state", told(x), was);
+        same("the state", state(x), was);
         due("count(11)", x.count(11), states);
         due("count(12)", x.count(12), 13);
         due("stopped(0)", x.stopped(0), NONE);
