@@ -27,9 +27,7 @@ final class BeatBoundaries extends Boundaries {
 
     private static void beats() {
         sentence("7", "`beats`: 1 to 100");
-        for (int beats : new int[] {MIN, -1, 0, 101, 102, MAX}) {
-            unchanged("beat(" + beats + ")", Bench::busy, x -> x.beat(beats), BAD_VALUE);
-        }
+        unchangedEach("beat(%d)", Bench::busy, (x, beats) -> x.beat(beats), BAD_VALUE, MIN, -1, 0, 101, 102, MAX);
         for (int beats : new int[] {1, 2, 99, 100}) {
             KiteRegisters x = act("beat(" + beats + ")", Bench::busy, y -> y.beat(beats), (1 + beats) % 8);
             due("count(10)", x.count(10), 1 + beats);
@@ -271,9 +269,7 @@ final class BeatBoundaries extends Boundaries {
 
     private static void windBeat() {
         sentence("8", "`beat`: 0 to 7");
-        for (int beat : new int[] {MIN, -2, -1, 8, 9, MAX}) {
-            unchanged("wind(" + beat + ", 5)", Bench::busy, x -> x.wind(beat, 5), UNKNOWN);
-        }
+        unchangedEach("wind(%d, 5)", Bench::busy, (x, beat) -> x.wind(beat, 5), UNKNOWN, MIN, -2, -1, 8, 9, MAX);
         for (int beat : new int[] {0, 1, 6, 7}) {
             int was = busy().windOf(beat);
             KiteRegisters x = act("wind(" + beat + ", 5)", Bench::busy, y -> y.wind(beat, 5), was);
@@ -286,9 +282,7 @@ final class BeatBoundaries extends Boundaries {
 
     private static void windValue() {
         sentence("8", "`wind`: 0 to 9");
-        for (int wind : new int[] {MIN, -2, -1, 10, 11, MAX}) {
-            unchanged("wind(1, " + wind + ")", Bench::busy, x -> x.wind(1, wind), BAD_VALUE);
-        }
+        unchangedEach("wind(1, %d)", Bench::busy, (x, wind) -> x.wind(1, wind), BAD_VALUE, MIN, -2, -1, 10, 11, MAX);
         for (int wind : new int[] {0, 1, 8, 9}) {
             KiteRegisters x = act("wind(1, " + wind + ")", Bench::busy, y -> y.wind(1, wind), 3);
             due("windOf(1)", x.windOf(1), wind);
@@ -322,9 +316,7 @@ final class BeatBoundaries extends Boundaries {
 
     private static void setWhich() {
         sentence("9", "`which`: 0 or 1");
-        for (int which : new int[] {MIN, -2, -1, 2, 3, MAX}) {
-            unchanged("set(" + which + ", 7)", Bench::busy, x -> x.set(which, 7), UNKNOWN);
-        }
+        unchangedEach("set(%d, 7)", Bench::busy, (x, which) -> x.set(which, 7), UNKNOWN, MIN, -2, -1, 2, 3, MAX);
         KiteRegisters x = act("set(0, 7)", Bench::busy, y -> y.set(0, 7), 20);
         due("count(8)", x.count(8), 7);
         due("count(9)", x.count(9), 2);
@@ -337,9 +329,8 @@ final class BeatBoundaries extends Boundaries {
         sentence("9", "`value`: in its range");
         sentence("9", "(the setting 0; 5 to 80; 30 at first)");
         due("count(8), at first", empty().count(8), 30);
-        for (int value : new int[] {MIN, -1, 0, 3, 4, 81, 82, MAX}) {
-            unchanged("set(0, " + value + ")", Bench::busy, x -> x.set(0, value), BAD_VALUE);
-        }
+        unchangedEach("set(0, %d)", Bench::busy, (x, value) -> x.set(0, value),
+                BAD_VALUE, MIN, -1, 0, 3, 4, 81, 82, MAX);
         for (int value : new int[] {5, 6, 79, 80}) {
             KiteRegisters x = act("set(0, " + value + ")", Bench::busy, y -> y.set(0, value), 20);
             due("count(8)", x.count(8), value);
@@ -351,9 +342,7 @@ final class BeatBoundaries extends Boundaries {
         sentence("9", "`value`: in its range");
         sentence("9", "by the setting 1 (0 to 9; 1 at first)");
         due("count(9), at first", empty().count(9), 1);
-        for (int value : new int[] {MIN, -2, -1, 10, 11, MAX}) {
-            unchanged("set(1, " + value + ")", Bench::busy, x -> x.set(1, value), BAD_VALUE);
-        }
+        unchangedEach("set(1, %d)", Bench::busy, (x, value) -> x.set(1, value), BAD_VALUE, MIN, -2, -1, 10, 11, MAX);
         for (int value : new int[] {0, 1, 8, 9}) {
             KiteRegisters x = act("set(1, " + value + ")", Bench::busy, y -> y.set(1, value), 2);
             due("count(9)", x.count(9), value);

@@ -54,6 +54,13 @@ abstract class Boundaries extends Bench {
         }
     }
 
+    /** Arguments outside of a range, each of which is refused. */
+    static void unchangedEach(String name, Start start, CallOf call, int want, int... arguments) {
+        for (int argument : arguments) {
+            unchanged(String.format(name, argument), start, x -> call.on(x, argument), want);
+        }
+    }
+
     private static void unknown(String name, Start start, CallOf call, int kite) {
         unchanged(name + " of kite " + kite, start, x -> call.on(x, kite), UNKNOWN);
     }

@@ -6,7 +6,9 @@ import java.lang.reflect.Modifier;
 import java.nio.file.Files;
 import java.nio.file.Path;
 import java.util.Arrays;
+import java.util.HashMap;
 import java.util.List;
+import java.util.Map;
 import java.util.Set;
 import java.util.TreeSet;
 import java.util.regex.Matcher;
@@ -126,7 +128,51 @@ public final class FaceTest {
         }
         check("no lambda, no method reference", !bare.contains("->") && !bare.contains("::"));
         check("characters 1 to 127 alone", text.chars().allMatch(ch -> ch > 0 && ch < 128));
+        library(bare);
+        callsAreNotDeep(bare);
         methodsAreShort(text);
+    }
+
+    /** Of the library only some functions of Math are called by the name of their class. */
+    private static void library(String bare) {
+        Matcher m = Pattern.compile("\\b([A-Z]\\w*[a-z]\\w*)(\\.\\w+)?").matcher(bare);
+        while (m.find()) {
+            boolean isOwn = Set.of("KiteRegisters", "Sky", "History", "Script", "String").contains(m.group(1));
+            boolean isMath = Set.of("Math.max", "Math.min", "Math.floorMod").contains(m.group());
+            check("of the library " + m.group(), isOwn || isMath);
+        }
+        Matcher called = Pattern.compile("\\bword\\.(\\w+)").matcher(bare);
+        while (called.find()) {
+            check("of texts " + called.group(), Set.of("length", "charAt").contains(called.group(1)));
+        }
+    }
+
+    /** No method calls itself, also not by way of others, and no more than eight stand open at once. */
+    private static void callsAreNotDeep(String bare) {
+        Map<String, Set<String>> calls = new HashMap<>();
+        Matcher opened = Pattern.compile("\\n( {4}| {8})(?:public|private) (?:static )?\\w+ (\\w+)\\(.*\\) \\{").matcher(bare);
+        while (opened.find()) {
+            int end = bare.indexOf("\n" + opened.group(1) + "}", opened.end());
+            Matcher called = Pattern.compile("(\\w+)\\(").matcher(bare.substring(opened.end(), end));
+            while (called.find()) {
+                calls.computeIfAbsent(opened.group(2), name -> new TreeSet<>()).add(called.group(1));
+            }
+        }
+        check("calls are found", calls.size() > 50);
+        for (String name : calls.keySet()) {
+            check(name + " is at most eight calls deep", depth(calls, name, 0) <= 8);
+        }
+    }
+
+    private static int depth(Map<String, Set<String>> calls, String name, int above) {
+        if (above > 20 || !calls.containsKey(name)) {
+            return 1;
+        }
+        int deepest = 0;
+        for (String called : calls.get(name)) {
+            deepest = Math.max(deepest, depth(calls, called, above + 1));
+        }
+        return deepest + 1;
     }
 
     private static void methodsAreShort(String text) {

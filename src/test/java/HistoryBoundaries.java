@@ -274,6 +274,8 @@ final class HistoryBoundaries extends Boundaries {
         due("perform()", performed(x, all), 8);
         due("undo()", x.undo(), 3);
         same("undo()", state(x), state(was));
+        x = busy();
+        x.keep();
         performed(x, all);
         x.set(0, 70);
         x.set(1, 7);

@@ -84,9 +84,7 @@ final class KiteBoundaries extends Boundaries {
 
     private static void flyString() {
         sentence("2", "`string`: 0 to 3");
-        for (int string : new int[] {MIN, -2, -1, 4, 5, MAX}) {
-            unchanged("fly(" + string + ", 5)", Bench::busy, x -> x.fly(string, 5), UNKNOWN);
-        }
+        unchangedEach("fly(%d, 5)", Bench::busy, (x, string) -> x.fly(string, 5), UNKNOWN, MIN, -2, -1, 4, 5, MAX);
         for (int string = 0; string <= 3; string++) {
             int s = string;
             KiteRegisters x = act("fly(" + s + ", 5)", Bench::busy, y -> y.fly(s, 5), 5);
@@ -98,9 +96,8 @@ final class KiteBoundaries extends Boundaries {
     private static void flyNumber() {
         sentence("2 5", "A kite carries a number (-999 to 999),");
         sentence("2", "`number`: -999 to 999");
-        for (int number : new int[] {MIN, -1001, -1000, 1000, 1001, MAX}) {
-            unchanged("fly(3, " + number + ")", Bench::busy, x -> x.fly(3, number), BAD_VALUE);
-        }
+        unchangedEach("fly(3, %d)", Bench::busy, (x, number) -> x.fly(3, number),
+                BAD_VALUE, MIN, -1001, -1000, 1000, 1001, MAX);
         for (int number : new int[] {-999, -998, -1, 0, 1, 998, 999}) {
             KiteRegisters x = act("fly(3, " + number + ")", Bench::busy, y -> y.fly(3, number), 5);
             due("kite(5, 0)", x.kite(5, 0), number);
@@ -497,9 +494,8 @@ final class KiteBoundaries extends Boundaries {
 
     private static void writeNumber() {
         sentence("5", "`number`: -999 to 999");
-        for (int number : new int[] {MIN, -1001, -1000, 1000, 1001, MAX}) {
-            unchanged("write(0, " + number + ")", Bench::busy, x -> x.write(0, number), BAD_VALUE);
-        }
+        unchangedEach("write(0, %d)", Bench::busy, (x, number) -> x.write(0, number),
+                BAD_VALUE, MIN, -1001, -1000, 1000, 1001, MAX);
         for (int number : new int[] {-999, -998, -1, 0, 1, 998, 999}) {
             KiteRegisters x = act("write(0, " + number + ")", Bench::busy, y -> y.write(0, number), 11);
             due("kite(0, 0)", x.kite(0, 0), number);
@@ -596,9 +592,7 @@ final class KiteBoundaries extends Boundaries {
 
     private static void moveString() {
         sentence("6", "`string`: 0 to 3");
-        for (int string : new int[] {MIN, -2, -1, 4, 5, MAX}) {
-            unchanged("move(0, " + string + ")", Bench::busy, x -> x.move(0, string), UNKNOWN);
-        }
+        unchangedEach("move(0, %d)", Bench::busy, (x, string) -> x.move(0, string), UNKNOWN, MIN, -2, -1, 4, 5, MAX);
         for (int string = 1; string <= 3; string++) {
             int s = string;
             KiteRegisters x = act("move(0, " + s + ")", Bench::busy, y -> y.move(0, s), 10);

@@ -1158,7 +1158,7 @@ public final class PromiseTests extends Bench {
         }
     }
 
-    private static void wrongCallsChangeNothing() {
+    private static KiteRegisters twelve() {
         KiteRegisters x = begin("errors change nothing");
         for (int k = 0; k < 12; k++) {
             x.fly(k % 3, k);
@@ -1167,8 +1167,11 @@ public final class PromiseTests extends Bench {
         x.takeDown(5);
         x.undo();
         enter(x, "beat 1;beat 0");
-        Map<String, Integer> was = state(x);
-        int states = x.count(11);
+        return x;
+    }
+
+    private static void wrongCallsChangeNothing() {
+        KiteRegisters x = twelve();
         x.fly(0, 1);
         x.fly(4, 1);
         x.fly(0, 1000);
@@ -1191,9 +1194,6 @@ public final class PromiseTests extends Bench {
         x.set(1, 10);
         x.perform();
         x.restore();
-        same("the state", state(x), was);
-        due("count(11)", x.count(11), states);
-        due("count(12)", x.count(12), 13);
-        due("stopped(0)", x.stopped(0), NONE);
+        same("all", everything(x), everything(twelve()));
     }
 }

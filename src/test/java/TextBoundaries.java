@@ -459,6 +459,10 @@ final class TextBoundaries extends Boundaries {
         fault("read :", 5);
         fault("read 1/", 6);
         fault("read 1:", 6);
+        // No character stands for the text's end.
+        fault("read 1\u0000", 6);
+        fault("read 1\uffff", 6);
+        fault("read\u0000", 4);
     }
 
     private static void longestText() {

@@ -315,9 +315,8 @@ final class ToldBoundaries extends Boundaries {
             int point = points[i];
             unchanged("drawn(0, " + point + ")", Bench::busy, x -> x.drawn(0, point), kites[i]);
         }
-        for (int point : new int[] {MIN, -2, -1, 14, 15, 1000, MAX}) {
-            unchanged("drawn(0, " + point + ")", Bench::busy, x -> x.drawn(0, point), BAD_VALUE);
-        }
+        unchangedEach("drawn(0, %d)", Bench::busy, (x, point) -> x.drawn(0, point),
+                BAD_VALUE, MIN, -2, -1, 14, 15, 1000, MAX);
         // Twelve kites whose weights are 1 to 12.
         KiteRegisters x = stack(1, 12);
         int begin = 0;
@@ -369,9 +368,7 @@ final class ToldBoundaries extends Boundaries {
     private static void drawnReturns() {
         sentence("19", "Draws a kite of a string by its weights.");
         sentence("19", "`string`: 0 to 3");
-        for (int string : new int[] {MIN, -2, -1, 4, 5, MAX}) {
-            unchanged("drawn(" + string + ", 0)", Bench::full, x -> x.drawn(string, 0), UNKNOWN);
-        }
+        unchangedEach("drawn(%d, 0)", Bench::full, (x, string) -> x.drawn(string, 0), UNKNOWN, MIN, -2, -1, 4, 5, MAX);
         for (int s = 0; s <= 3; s++) {
             int string = s;
             unchanged("drawn(" + s + ", 0)", Bench::full, x -> x.drawn(string, 0), s);
@@ -453,9 +450,7 @@ final class ToldBoundaries extends Boundaries {
     private static void windOf() {
         sentence("21", "Tells the wind of a beat.");
         sentence("21", "`beat`: 0 to 7");
-        for (int beat : new int[] {MIN, -2, -1, 8, 9, MAX}) {
-            unchanged("windOf(" + beat + ")", Bench::busy, x -> x.windOf(beat), UNKNOWN);
-        }
+        unchangedEach("windOf(%d)", Bench::busy, (x, beat) -> x.windOf(beat), UNKNOWN, MIN, -2, -1, 8, 9, MAX);
         int[] winds = {9, 3, 2, 2, 2, 2, 2, 2};
         for (int b = 0; b <= 7; b++) {
             int beat = b;
@@ -688,9 +683,8 @@ final class ToldBoundaries extends Boundaries {
 
     private static void downInHeight() {
         sentence("24", "`height`: 0 to 99");
-        for (int height : new int[] {MIN, -2, -1, 100, 101, MAX}) {
-            unchanged("downIn(0, " + height + ")", Bench::busy, x -> x.downIn(0, height), BAD_VALUE);
-        }
+        unchangedEach("downIn(0, %d)", Bench::busy, (x, height) -> x.downIn(0, height),
+                BAD_VALUE, MIN, -2, -1, 100, 101, MAX);
         // Kite 0 of busy() stands at 10, and would stop at 2, above kites 1 and 2.
         int[] heights = {0, 1, 2, 3, 9, 10, 11, 98, 99};
         int[] beats = {NONE, NONE, 4, 4, 1, 0, 0, 0, 0};
