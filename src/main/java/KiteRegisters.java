@@ -692,7 +692,7 @@ public final class KiteRegisters {
         }
 
         private int windNow() {
-            return winds[Math.floorMod(beatsSoFar, BEATS)];
+            return windAt(beatNow());
         }
 
         private int windAt(int beat) {

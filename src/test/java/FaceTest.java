@@ -19,6 +19,7 @@ import java.util.stream.Collectors;
 public final class FaceTest {
 
     private static final Path PROGRAM = Path.of("src/main/java/KiteRegisters.java");
+    private static final Path DOCUMENT = Path.of("../shared/DOC.md");
 
     private static final String[] METHODS = {
         "fly(int,int)", "takeDown(int)", "read(int)", "write(int,int)", "move(int,int)", "beat(int)",
@@ -36,6 +37,8 @@ public final class FaceTest {
         face();
         hidden();
         source();
+        faceOfTheDocument();
+        headingsOfTheDocument();
         noCallThrows();
         System.out.println(wrong == 0 ? "the face is as told" : wrong + " faults of the face");
         if (wrong != 0) {
@@ -81,6 +84,39 @@ public final class FaceTest {
         }
         check("the constants are not " + constants,
                 constants.equals(Set.of("UNKNOWN", "BAD_VALUE", "FULL", "NOT_POSSIBLE", "NONE")));
+    }
+
+    /** "The public face": each of its lines stands in the class, in this order and with these names of arguments. */
+    private static void faceOfTheDocument() throws IOException {
+        String text = Files.readString(PROGRAM);
+        Matcher m = Pattern.compile("\\n    (public [^;{\\n]*);").matcher(Files.readString(DOCUMENT));
+        int lines = 0;
+        int place = 0;
+        for (; m.find(); lines++) {
+            String ending = m.group(1).contains("=") ? ";" : " {";
+            int found = text.indexOf("\n    " + m.group(1) + ending, place);
+            check("as the document has it, and in its order: " + m.group(1), found >= 0);
+            place = Math.max(place, found);
+        }
+        check("the document's face has 5 constants, a constructor and 26 methods, not " + lines, lines == 32);
+    }
+
+    /** "Ahead of the calls .. the interface says: ----": the heading, and then these calls before the next heading. */
+    private static void headingsOfTheDocument() throws IOException {
+        String text = Files.readString(PROGRAM);
+        Matcher m = Pattern.compile("Ahead of the calls (.*) the interface says: (---- .*)\\.").matcher(Files.readString(DOCUMENT));
+        int calls = 0;
+        while (m.find()) {
+            int start = text.indexOf("\n    // " + m.group(2) + "\n");
+            check("the heading " + m.group(2), start >= 0);
+            int next = text.indexOf("\n    // ----", start + 1);
+            String group = text.substring(Math.max(0, start), next < 0 ? text.length() : next);
+            for (String call : m.group(1).replace("`", "").split(", ")) {
+                check(call + " stands behind " + m.group(2), group.contains("\n    public int " + call + "("));
+                calls++;
+            }
+        }
+        check("26 calls stand behind headings, not " + calls, calls == 26);
     }
 
     private static void hidden() {
